@@ -1,0 +1,37 @@
+/** Counts the calls whose answer is not the one that is due, and prints them. */
+final class Checks {
+    private int made;
+    private int wrong;
+
+    void due(String call, long got, long want) {
+        made++;
+        if (got != want) {
+            wrong++;
+            System.out.println(call + " answered " + got + ", due is " + want);
+        }
+    }
+
+    void due(String call, boolean got, boolean want) {
+        due(call, got ? 1L : 0L, want ? 1L : 0L);
+    }
+
+    void due(String call, String got, String want) {
+        made++;
+        if (!got.equals(want)) {
+            wrong++;
+            System.out.println(call + " answered" + System.lineSeparator() + got + System.lineSeparator()
+                    + "due is" + System.lineSeparator() + want);
+        }
+    }
+
+    boolean failed() {
+        return wrong != 0;
+    }
+
+    void end() {
+        System.out.println(wrong == 0 ? made + " answers are as due" : wrong + " of " + made + " answers are not as due");
+        if (wrong != 0) {
+            System.exit(1);
+        }
+    }
+}

@@ -32,7 +32,7 @@ public final class LiftedTile {
         cells = new int[PLANES * PLANE_AREA];
         columns = new Span(1);
         rows = new Span(MAX_SIDE);
-        line = new Line(cells);
+        line = new Line();
         kernels = new int[MAX_LEVELS];
         levelCount = 0;
         areMixed = false;
@@ -272,12 +272,13 @@ public final class LiftedTile {
         int end = begin + across.countOf(power, 0);
         for (int k = begin; k < end; k++) {
             int cell = plane * PLANE_AREA + along.offsetOf(first << power) + across.offsetOf(k << power);
-            line.lay(cell, along.stride << power, first, length);
+            line.readFrom(cells, cell, along.stride << power, first, length);
             if (forth) {
                 line.liftForth(kernel);
             } else {
                 line.liftBack(kernel);
             }
+            line.writeTo(cells, cell, along.stride << power);
         }
     }
 
@@ -335,51 +336,58 @@ public final class LiftedTile {
         }
     }
 
-    /** A line of the lattice, lifted where it lies in the cells; laid anew for each line. */
+    /** A line of the lattice; one serves for all lines, one after the other. */
     private static final class Line {
         /** The shortest line of two and the farthest reach of three need three reflections. */
         private static final int MAX_REFLECTIONS = 8;
 
-        private final int[] cells;
-        private int cell;
-        private int stride;
+        private final int[] values;
         private int a;
         private int b;
 
-        Line(int[] cells) {
-            this.cells = cells;
+        Line() {
+            values = new int[MAX_SIDE];
+            a = 0;
+            b = 0;
         }
 
-        void lay(int firstCell, int newStride, int first, int length) {
-            cell = firstCell;
-            stride = newStride;
+        void readFrom(int[] cells, int cell, int stride, int first, int length) {
             a = first;
             b = first + length - 1;
+            for (int i = 0; i < length; i++) {
+                values[i] = cells[cell + i * stride];
+            }
+        }
+
+        void writeTo(int[] cells, int cell, int stride) {
+            for (int i = 0; i <= b - a; i++) {
+                cells[cell + i * stride] = values[i];
+            }
         }
 
         void liftForth(int kernel) {
             if (a == b) {
-                cells[cell] = isOdd(a) ? cells[cell] * 2 : cells[cell];
+                values[0] = isOdd(a) ? values[0] * 2 : values[0];
                 return;
             }
             for (int n = firstOdd(); n <= b; n += 2) {
-                cells[cellOf(n)] -= prediction(kernel, n);
+                values[n - a] -= prediction(kernel, n);
             }
             for (int n = firstEven(); n <= b; n += 2) {
-                cells[cellOf(n)] += update(kernel, n);
+                values[n - a] += update(kernel, n);
             }
         }
 
         void liftBack(int kernel) {
             if (a == b) {
-                cells[cell] = isOdd(a) ? cells[cell] >> 1 : cells[cell];
+                values[0] = isOdd(a) ? values[0] >> 1 : values[0];
                 return;
             }
             for (int n = firstEven(); n <= b; n += 2) {
-                cells[cellOf(n)] -= update(kernel, n);
+                values[n - a] -= update(kernel, n);
             }
             for (int n = firstOdd(); n <= b; n += 2) {
-                cells[cellOf(n)] += prediction(kernel, n);
+                values[n - a] += prediction(kernel, n);
             }
         }
 
@@ -407,11 +415,7 @@ public final class LiftedTile {
             for (int i = 0; i < MAX_REFLECTIONS && (inside < a || inside > b); i++) {
                 inside = inside < a ? 2 * a - inside : 2 * b - inside;
             }
-            return cells[cellOf(inside)];
-        }
-
-        private int cellOf(int n) {
-            return cell + (n - a) * stride;
+            return values[inside - a];
         }
 
         private int firstOdd() {

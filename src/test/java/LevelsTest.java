@@ -58,6 +58,8 @@ public final class LevelsTest {
         // The farthest reach from the shortest line: three reflections.
         lifted(2, 1, "6 7", 10, 4);
         lifted(2, 0, "7 -6", 10, 4);
+        // 16 >> 4 is just reached.
+        lifted(2, 0, "3 4 2", 1, 5, 0);
         // The predictions are -8 >> 4, 152 >> 4, 152 >> 4, -24 >> 4; that for index 3 needs no reflection.
         lifted(2, 0, "1 1 0 -1 14 -9 -2 2", 0, 0, 0, 8, 16, 0, 0, 0);
     }

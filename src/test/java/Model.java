@@ -14,6 +14,7 @@ final class Model {
     private int top;
     private int width;
     private int height;
+    private long farthest;
     private final List<Integer> kernels = new ArrayList<>();
     private final List<Map<String, Integer>> planes = List.of(new TreeMap<>(), new TreeMap<>(), new TreeMap<>());
 
@@ -63,7 +64,7 @@ final class Model {
             int r = at(0, place.x, place.y);
             int g = at(1, place.x, place.y);
             int b = at(2, place.x, place.y);
-            set(place, (int) ((long) r + 2L * g + b) >> 2, (int) ((long) b - g), (int) ((long) r - g));
+            set(place, wrapped((long) r + 2L * g + b) >> 2, wrapped((long) b - g), wrapped((long) r - g));
         }
         mixed = true;
         return true;
@@ -77,8 +78,8 @@ final class Model {
             int p = at(0, place.x, place.y);
             int q = at(1, place.x, place.y);
             int t = at(2, place.x, place.y);
-            int g = (int) ((long) p - ((int) ((long) q + t) >> 2));
-            set(place, (int) ((long) t + g), g, (int) ((long) q + g));
+            int g = wrapped((long) p - (wrapped((long) q + t) >> 2));
+            set(place, wrapped((long) t + g), g, wrapped((long) q + g));
         }
         mixed = false;
         return true;
@@ -166,7 +167,7 @@ final class Model {
                 long m = c < 0 ? -(long) c : c;
                 long k = m / step;
                 long amount = k == 0 ? 0 : k * step + step / 2;
-                int thinned = (int) (c < 0 ? -amount : amount);
+                int thinned = wrapped(c < 0 ? -amount : amount);
                 vanished += c != 0 && thinned == 0 ? 1 : 0;
                 plane.put(key, thinned);
             }
@@ -184,6 +185,21 @@ final class Model {
             sum += c < 0 ? -c : c;
         }
         return sum;
+    }
+
+    /** Puts any int at a place, which no call of the face does. */
+    void force(int plane, int x, int y, int value) {
+        planes.get(plane).put(key(x, y), value);
+    }
+
+    /** The greatest amount that a sum, a difference or a product of values had before it was wrapped. */
+    long farthest() {
+        return farthest;
+    }
+
+    private int wrapped(long exact) {
+        farthest = Math.max(farthest, Math.abs(exact));
+        return (int) exact;
     }
 
     private static String key(long x, long y) {
@@ -263,7 +279,7 @@ final class Model {
             int a = line.firstKey();
             int v = line.get(a);
             if (a % 2 == 1) {
-                line.put(a, forth ? (int) (2L * v) : v >> 1);
+                line.put(a, forth ? wrapped(2L * v) : v >> 1);
             }
         } else if (forth) {
             step(line, 1, -1);
@@ -279,27 +295,27 @@ final class Model {
         for (int n : line.keySet()) {
             if (n % 2 == parity) {
                 int change = parity == 1 ? prediction(line, kernel, n) : update(line, kernel, n);
-                line.put(n, (int) (line.get(n) + (long) sign * change));
+                line.put(n, wrapped(line.get(n) + (long) sign * change));
             }
         }
     }
 
-    private static int prediction(TreeMap<Integer, Integer> line, int kernel, int n) {
+    private int prediction(TreeMap<Integer, Integer> line, int kernel, int n) {
         if (kernel == 0) {
-            return (int) (value(line, n - 1) + value(line, n + 1)) >> 1;
+            return wrapped(value(line, n - 1) + value(line, n + 1)) >> 1;
         }
         if (kernel == 1) {
             return (int) value(line, n - 1);
         }
         long near = value(line, n - 1) + value(line, n + 1);
-        return (int) (9 * near - value(line, n - 3) - value(line, n + 3) + 8) >> 4;
+        return wrapped(9 * near - value(line, n - 3) - value(line, n + 3) + 8) >> 4;
     }
 
-    private static int update(TreeMap<Integer, Integer> line, int kernel, int n) {
+    private int update(TreeMap<Integer, Integer> line, int kernel, int n) {
         if (kernel == 1) {
             return (int) value(line, n + 1) >> 1;
         }
-        return (int) (value(line, n - 1) + value(line, n + 1) + 2) >> 2;
+        return wrapped(value(line, n - 1) + value(line, n + 1) + 2) >> 2;
     }
 
     private static long value(TreeMap<Integer, Integer> line, int m) {

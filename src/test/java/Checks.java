@@ -29,9 +29,10 @@ final class Checks {
     }
 
     void end() {
-        System.out.println(wrong == 0 ? made + " answers are as due" : wrong + " of " + made + " answers are not as due");
         if (wrong != 0) {
+            System.out.println(wrong + " of " + made + " answers are not as due");
             System.exit(1);
         }
+        System.out.println(made + " answers are as due");
     }
 }

@@ -4,10 +4,11 @@ import java.util.List;
 /**
  * Values as great as 512 calls are known to bring them: a sum of kernel 2 that is past 1,900,000,000, and no wrap yet.
  *
- * <p>Values grow by thinning alone, which adds at most 16383 to a value each time. Of all ways from the values of one
- * subband to one sum, the steepest leads from subband 0 of a level of kernel 2, by back() and mix(), to kernel 2 in a
- * level above those of the kernels 0, 1 and 1: no thin() adds more than 16383 * 263.03 to that sum. So 2 to the power
- * of 31 is 499 times thin() away, with fifty values or more at work, and 512 calls do not suffice to put these too.
+ * <p>Values grow by thinning alone, which adds at most 16383 to an amount each time. A search over all kernels, levels
+ * and sides for the steepest way from the values of one subband to one sum found the way that is taken here: from
+ * subband 0 of a level of kernel 2, by back() and mix(), to kernel 2 in a level above those of the kernels 0, 1 and 1.
+ * The sum grows by 263.03 times what the values grow by. So 2 to the power of 31 is 499 times thin() away, with some
+ * fifty values at work, and 512 calls do not suffice to put these too.
  */
 public final class FarTest {
     private static final Checks CHECKS = new Checks();

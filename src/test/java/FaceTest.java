@@ -70,7 +70,8 @@ public final class FaceTest {
             int modifiers = inside.getModifiers();
             boolean isSeen = Modifier.isPublic(modifiers) || Modifier.isProtected(modifiers);
             CHECKS.due("seen from outside: " + inside, isSeen, false);
-            CHECKS.due("static: " + inside, Modifier.isStatic(modifiers), true);
+            boolean isPrivateOrStatic = Modifier.isPrivate(modifiers) || Modifier.isStatic(modifiers);
+            CHECKS.due("private, or static: " + inside, isPrivateOrStatic, true);
         }
     }
 }

@@ -14,30 +14,55 @@ public final class FarTest {
     private static final Checks CHECKS = new Checks();
     private static final int CORNER = 5;
     private static final int SIDE = 12;
-    private static final int THINS = 453;
+    /** So that one call is left for a question. */
+    private static final int MOST_THINS = 453;
     private static final int MAX_STEP = 32767;
+    private static final int[] KERNELS = {0, 1, 1, 2};
 
-    public static void main(String[] args) {
-        Model model = new Model();
+    private final Model model = new Model();
+    private final List<Integer> steps = new ArrayList<>();
+    private final Recipe recipe;
+
+    private FarTest(int thins) {
         model.open(CORNER, CORNER, SIDE, SIDE);
         putSigns(model::put);
         model.forward(2);
-        List<Integer> steps = thinUp(model);
+        thinUp(thins);
         model.back();
         model.mix();
-        int[] kernels = {0, 1, 1, 2};
-        for (int kernel : kernels) {
+        for (int kernel : KERNELS) {
             model.forward(kernel);
         }
-        CHECKS.due("the farthest sum is past 1900000000", model.farthest() > 1_900_000_000L, true);
-        CHECKS.due("the farthest sum is an int", model.farthest() <= Integer.MAX_VALUE, true);
+        Recipe signs = Tiles.empty(CORNER, CORNER, SIDE, SIDE).then(tile -> putSigns(tile::put));
+        Recipe great = signs.then(Tiles.forward(2)).then(tile -> steps.forEach(step -> tile.thin(1, 0, step)));
+        recipe = great.then(Tiles.back(1)).then(Tile::mix).then(Tiles.forward(KERNELS));
+    }
 
-        Recipe recipe = Tiles.empty(CORNER, CORNER, SIDE, SIDE).then(tile -> putSigns(tile::put));
-        recipe = recipe.then(Tiles.forward(2)).then(tile -> steps.forEach(step -> tile.thin(1, 0, step)));
-        recipe = recipe.then(Tiles.back(1)).then(Tile::mix).then(Tiles.forward(kernels));
-        CHECKS.due("calls left for the answer", Tiles.made(recipe).callsLeft(), 1);
-        compare(new Reading(recipe), model);
+    public static void main(String[] args) {
+        farSumsOfForward();
+        farSumsOfBack();
         CHECKS.end();
+    }
+
+    private static void farSumsOfForward() {
+        FarTest far = new FarTest(MOST_THINS);
+        CHECKS.due("the farthest sum is past 1900000000", far.model.farthest() > 1_900_000_000L, true);
+        CHECKS.due("the farthest sum is an int", far.model.farthest() <= Integer.MAX_VALUE, true);
+        CHECKS.due("calls left for the answer", Tiles.made(far.recipe).callsLeft(), 1);
+        Reading reading = new Reading(far.recipe);
+        far.compareValues("taken apart", reading);
+        far.compareWeights(reading);
+    }
+
+    private static void farSumsOfBack() {
+        FarTest far = new FarTest(MOST_THINS - KERNELS.length - 1);
+        for (int i = 0; i < KERNELS.length; i++) {
+            far.model.back();
+        }
+        far.model.unmix();
+        Recipe whole = far.recipe.then(Tiles.back(KERNELS.length)).then(Tile::unmix);
+        CHECKS.due("calls left for the answer", Tiles.made(whole).callsLeft(), 1);
+        far.compareValues("put together", new Reading(whole));
     }
 
     /** What put() is, of the tile or of the Model. */
@@ -56,16 +81,14 @@ public final class FarTest {
         }
     }
 
-    private static List<Integer> thinUp(Model model) {
-        // These two make all amounts alike, so that one step serves them all.
-        List<Integer> steps = new ArrayList<>(List.of(6271, 9406));
-        steps.forEach(step -> model.thin(1, 0, step));
-        while (steps.size() < THINS) {
-            int step = steepest(Math.abs(model.at(0, 16, 16)));
+    private void thinUp(int thins) {
+        // The first two make all amounts alike, so that one step serves them all.
+        int[] alike = {6271, 9406};
+        for (int i = 0; i < thins; i++) {
+            int step = i < alike.length ? alike[i] : steepest(Math.abs(model.at(0, 16, 16)));
             model.thin(1, 0, step);
             steps.add(step);
         }
-        return steps;
     }
 
     /** The step that makes the most of an amount. */
@@ -79,14 +102,24 @@ public final class FarTest {
         return best;
     }
 
-    private static void compare(Reading reading, Model model) {
+    private void compareValues(String name, Reading reading) {
         for (int plane = 0; plane < 3; plane++) {
             for (int y = CORNER; y < CORNER + SIDE; y++) {
                 for (int x = CORNER; x < CORNER + SIDE; x++) {
-                    String call = "at(" + plane + ", " + x + ", " + y + ")";
+                    String call = name + ": at(" + plane + ", " + x + ", " + y + ")";
                     CHECKS.due(call, reading.at(plane, x, y), model.at(plane, x, y));
                 }
             }
+        }
+    }
+
+    private void compareWeights(Reading reading) {
+        for (int i = 0; i < 48; i++) {
+            int plane = i / 16;
+            int d = i / 4 % 4 + 1;
+            int o = i % 4;
+            String call = "weight(" + plane + ", " + d + ", " + o + ")";
+            CHECKS.due(call, reading.ask(tile -> tile.weight(plane, d, o)), model.weight(plane, d, o));
         }
     }
 }

@@ -187,11 +187,6 @@ final class Model {
         return sum;
     }
 
-    /** Puts any int at a place, which no call of the face does. */
-    void force(int plane, int x, int y, int value) {
-        planes.get(plane).put(key(x, y), value);
-    }
-
     /** The greatest amount that a sum, a difference or a product of values had before it was wrapped. */
     long farthest() {
         return farthest;

@@ -9,11 +9,6 @@ final class Tile {
         return CALLS - calls;
     }
 
-    /** The object itself, without counting: for what is not a call of its face. */
-    LiftedTile bare() {
-        return tile;
-    }
-
     private LiftedTile asked() {
         if (calls == CALLS) {
             throw new IllegalStateException("a test asks one object more than " + CALLS + " calls");
